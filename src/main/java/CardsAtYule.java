@@ -782,18 +782,16 @@ public final class CardsAtYule {
         fates.find(land.ruleOfSide(pair, 0), land.ruleOfSide(pair, 1), state);
     }
 
-    private boolean dies(int pair, int state) {
-        findFateOf(pair, state);
-        return fates.kind() == Fate.DIES;
-    }
-
     private int turnedByStrike(int year, boolean fromDeath) {
         Book now = refreshed();
         int turned = 0;
         for (int pair = 0; pair < land.pairs; pair++) {
             int ahead = now.stateAhead(land, pair, year);
-            boolean struckDies = dies(pair, Year.after(ahead, 0));
-            if (dies(pair, ahead) == fromDeath && struckDies != fromDeath) {
+            findFateOf(pair, ahead);
+            boolean dies = fates.kind() == Fate.DIES;
+            findFateOf(pair, Year.after(ahead, 0));
+            boolean diesByStrike = fates.kind() == Fate.DIES;
+            if (dies == fromDeath && diesByStrike != fromDeath) {
                 turned++;
             }
         }
@@ -1034,7 +1032,7 @@ public final class CardsAtYule {
                 return readLand();
             }
             if (isWord("person")) {
-                return readPerson();
+                return readPerson() && readMarks(told.people - 1);
             }
             if (isWord("pair")) {
                 return readPair();
@@ -1079,7 +1077,7 @@ public final class CardsAtYule {
                 return false;
             }
             told.addPerson(number);
-            return readMarks(told.people - 1);
+            return true;
         }
 
         /** A MARK that is there already is left for takeSign to refuse. */
@@ -1108,11 +1106,11 @@ public final class CardsAtYule {
                 return refuse(TOO_MANY, start);
             }
             goToNext();
-            if (!takePerson()) {
+            if (!takeNumber(0, told.people - 1)) {
                 return false;
             }
             int side0 = number;
-            if (!takePerson()) {
+            if (!takeNumber(0, told.people - 1)) {
                 return false;
             }
             int side1 = number;
@@ -1128,15 +1126,15 @@ public final class CardsAtYule {
 
         private boolean readLost() {
             goToNext();
-            if (!takeYear()) {
+            if (!takeNumber(0, told.years - 1)) {
                 return false;
             }
             int year = number;
-            if (!takePerson()) {
+            if (!takeNumber(0, told.people - 1)) {
                 return false;
             }
             int sender = number;
-            if (!takePerson()) {
+            if (!takeNumber(0, told.people - 1)) {
                 return false;
             }
             int pair = told.pairOf(sender, number);
@@ -1150,7 +1148,7 @@ public final class CardsAtYule {
 
         private boolean readStrike() {
             goToNext();
-            if (!takeYear()) {
+            if (!takeNumber(0, told.years - 1)) {
                 return false;
             }
             told.strikes |= 1L << number;
@@ -1159,23 +1157,15 @@ public final class CardsAtYule {
 
         private boolean readFatal(int[] years) {
             goToNext();
-            if (!takePerson()) {
+            if (!takeNumber(0, told.people - 1)) {
                 return false;
             }
             int person = number;
-            if (!takeYear()) {
+            if (!takeNumber(0, told.years - 1)) {
                 return false;
             }
             years[person] = number;
             return true;
-        }
-
-        private boolean takePerson() {
-            return takeNumber(0, told.people - 1);
-        }
-
-        private boolean takeYear() {
-            return takeNumber(0, told.years - 1);
         }
 
         private boolean takeNumber(int low, int high) {
@@ -1285,7 +1275,8 @@ public final class CardsAtYule {
 
         /** The sides that send by return, of those that may, when some sent first and some cards come. */
         static int backs(int first, int returning, int reach) {
-            return ~first & returning & swapped(first & reach);
+            int came = first & reach;
+            return ~first & returning & ((came & 1) << 1 | came >> 1);
         }
 
         /** The STATE behind the YEAR, in which some sides got one. */
@@ -1330,8 +1321,8 @@ public final class CardsAtYule {
             int returning = Year.returning(rule[0], rule[1]);
             int state = begun;
             for (int year = 0; year < years; year++) {
-                int able = sidesIn(may, year);
-                int comes = sidesIn(reach, year);
+                int able = sidesOf(may[0], may[1], year);
+                int comes = sidesOf(reach[0], reach[1], year);
                 int sent = Year.firsts(rule[0], rule[1], state) & able;
                 int sentBack = Year.backs(sent, returning & able, comes);
                 int gets = Year.swapped((sent | sentBack) & comes);
@@ -1354,11 +1345,8 @@ public final class CardsAtYule {
             return land.card * Long.bitCount(first[side] | back[side]) + land.hurt * hurtsOf(side);
         }
 
-        private static int sidesIn(long[] bySide, int year) {
-            return sidesOf(bySide[0], bySide[1], year);
-        }
-
-        private static int sidesOf(long side0, long side1, int year) {
+        /** The sides that have a YEAR among theirs. */
+        static int sidesOf(long side0, long side1, int year) {
             return (int) (side0 >> year & 1) | (int) (side1 >> year & 1) << 1;
         }
 
@@ -1395,11 +1383,14 @@ public final class CardsAtYule {
         }
 
         int stateAhead(Land land, int pair, int year) {
-            int state = land.begun[pair];
-            for (int y = 0; y < year; y++) {
-                state = Year.after(state, Course.sidesOf(got[2 * pair], got[2 * pair + 1], y));
-            }
-            return state;
+            int begun = land.begun[pair];
+            return stateOfSide(got[2 * pair], begun & 3, year) | stateOfSide(got[2 * pair + 1], begun >> 2, year) << 2;
+        }
+
+        /** Puts the two years ahead of the first below the YEARS, so that any two of them stand together. */
+        private static int stateOfSide(long gotYears, int begunSide, int year) {
+            long gotAll = gotYears << 2 | (begunSide & 1) << 1 | begunSide >> 1;
+            return (int) (gotAll >> year + 1 & 1) | (int) (gotAll >> year & 1) << 1;
         }
 
         int sentIn(Land land, int year) {
@@ -1729,7 +1720,9 @@ public final class CardsAtYule {
         void lay(int slot, int itsWidth, int n) {
             width[slot] = itsWidth;
             size[slot] = n;
-            Arrays.fill(numbers, slot * MOST, slot * MOST + n, 0L);
+            for (int i = 0; i < n; i++) {
+                numbers[slot * MOST + i] = 0L;
+            }
         }
 
         long numberAt(int slot, int i) {
