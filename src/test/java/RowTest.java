@@ -50,6 +50,7 @@ public final class RowTest {
             Due.fill(x, 0, width, 1, width == 0 ? 128 : 1L << (8 << width - 1), 0);
             due.is("not cut by width " + width, x.odd(0, 0), -2);
         }
+        Due.fill(x, 0, 3, 40, 2, 2);
         x.row(0, 3, 3);
         due.is("all 0 anew", x.odd(0, 0), -1);
     }

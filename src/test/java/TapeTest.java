@@ -85,7 +85,9 @@ public final class TapeTest {
         due.is("place without", x.fault(1), -1);
         due.is("dearest of nobody", x.dearest(), -1);
         due.is("no lines", Due.tell(x, " \n "), 0);
-        due.is("no years then", x.count(2), 0);
+        for (int what = 0; what < 9; what++) {
+            due.is("count " + what + " then", x.count(what), 0);
+        }
         due.is("no land then", x.over(), -2);
     }
 
@@ -122,6 +124,12 @@ public final class TapeTest {
         bad("5", 1, 0);
         bad("person rule 0;", 1, 0);
         bad("landyears 5 card 3 hurt 2;", 1, 0);
+        bad("landz years 5 card 3 hurt 2;", 1, 0);
+        bad("{and years 5 card 3 hurt 2;", 1, 0);
+        bad("land`years 5 card 3 hurt 2;", 1, 4);
+        bad("land{years 5 card 3 hurt 2;", 1, 4);
+        bad("land years 5:card 3 hurt 2;", 1, 12);
+        bad("land years 5/card 3 hurt 2;", 1, 12);
         bad("Land years 5 card 3 hurt 2;", 1, 0);
         bad("land", 1, 4);
         bad("land  ", 1, 6);
