@@ -24,6 +24,7 @@ public final class EdgeChoiceTest {
         willIsNeverByReturn();
         quitAndWhenTake();
         quitFromTheFirstAndTheLastYear();
+        whenByOneHurt();
         bestTakes();
         familyTakes();
         familyOfNobody();
@@ -303,6 +304,17 @@ public final class EdgeChoiceTest {
         CardsAtYule z = two("15", "0", 0);
         due.is("who never sends is never hurt", z.when(0, 0), 0);
         due.is("never", z.quit(0, 0, 0), 0);
+    }
+
+    private static void whenByOneHurt() {
+        CardsAtYule x = Due.land(Edge.FULL_LAND);
+        for (int year = 1; year < 40; year++) {
+            x.calls(year, 1);
+        }
+        due.is("from the first", x.quit(15, 0, 0), 40);
+        due.is("from the second", x.quit(15, 0, 1), 39);
+        due.is("from the last", x.quit(15, 0, 39), 39);
+        due.is("the first of the least", x.when(15, 0), 1);
     }
 
     private static void bestTakes() {

@@ -25,6 +25,7 @@ public final class EdgeFateTest {
         strikeEndsAllOrNone();
         strikeSavesAll();
         mildestOfSeveral();
+        mildestByOnePair();
         due.end();
     }
 
@@ -218,6 +219,15 @@ public final class EdgeFateTest {
         due.is("none in the second", x.saves(1), 0);
         due.is("none in the last", x.saves(39), 0);
         due.is("and ends none", x.strike(0), 0);
+    }
+
+    private static void mildestByOnePair() {
+        CardsAtYule x = Due.land(Edge.FULL_LAND.replace("rule 15", "rule 10"));
+        x.lose(15, 0, 38, 1);
+        x.lose(15, 1, 38, 1);
+        due.is("all but one are ended", x.strike(39), 15);
+        due.is("in the other years all", x.strike(38), 16);
+        due.is("the mildest", x.mildest(), 39);
     }
 
     private static void mildestOfSeveral() {

@@ -47,6 +47,7 @@ public final class EdgeTextTest {
         blanksAsideAndLongestTokens();
         everyLetterOfEveryWord();
         endOfTheTextAnywhere();
+        numbersAreCutAsWell();
         firstFaultByItsPlace();
         due.end();
     }
@@ -578,10 +579,30 @@ public final class EdgeTextTest {
             }
             boolean inWord = from < n && Character.isLetter(text.charAt(n));
             bad(text.substring(0, n), 1, inWord ? from : n);
+            cut(text, n, inWord ? from : n);
         }
         good(text.substring(0, 0), 0);
         good(text.substring(0, 31), 1);
         good(text, 1);
+    }
+
+    /** What was behind the end of the tape is not read, be it a blank, a letter or a digit. */
+    private static void cut(String text, int n, int place) {
+        CardsAtYule x = new CardsAtYule();
+        Due.feed(x, text);
+        x.end(n);
+        due.is("cut behind " + text.substring(0, n), x.land(), -4);
+        due.is("fault of the cut", x.fault(0), 1);
+        due.is("place of the cut", x.fault(1), place);
+    }
+
+    private static void numbersAreCutAsWell() {
+        CardsAtYule x = new CardsAtYule();
+        Due.feed(x, "land years 3 card 1 hurt 0;strike 29999");
+        x.end(35);
+        x.feed(0x20202020, 0x20202020, 0x20202020, 0x20202020, 0x2020203b);
+        due.is("strike 2", x.land(), 2);
+        due.is("in year 2", x.calls(2, 0), 1);
     }
 
     private static void firstFaultByItsPlace() {
