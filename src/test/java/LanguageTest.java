@@ -55,6 +55,11 @@ public final class LanguageTest {
                 due.is(m.getName() + " is private", Modifier.isPrivate(m.getModifiers()) ? 1 : 0, 1);
             }
         }
+        for (Method m : c.getDeclaredMethods()) {
+            boolean isHidden = !Modifier.isPublic(m.getModifiers());
+            due.is(m + " has a name of its own", isHidden && open.contains(m.getName()) ? 1 : 0, 0);
+            due.is(m + " has few parameters", m.getParameterCount() <= 7 ? 1 : 0, 1);
+        }
         for (Constructor<?> k : c.getDeclaredConstructors()) {
             due.is("constructor", Modifier.isPublic(k.getModifiers()) ? k.getParameterCount() : -1, 0);
         }
