@@ -195,6 +195,10 @@ public final class SaidFateTest {
         doc.section("Promise 34: mildest");
         doc.says("The YEAR in which a strike ends fewest, the first of several.");
         doc.is("1 1 2 1 1 1", Due.land(YULE).mildest(), 0);
+        CardsAtYule x = pairOf("10", "10", 5);
+        x.calls(1, 1);
+        doc.are("1 1 0 0", new long[] {x.strike(0), x.strike(1), x.strike(2), x.strike(3), x.mildest()}, 1, 1, 0, 0, 2);
+        doc.is("nobody", Due.land("land years 2 card 0 hurt 0;").mildest(), 0);
 
         doc.says("-2: there is no LAND.");
         doc.is("no land", new CardsAtYule().mildest(), -2);

@@ -144,6 +144,8 @@ public final class SaidSeenTest {
             + "none in the last one, 2: how often one forgets.");
         CardsAtYule x = Due.land(YULE);
         doc.are("seed 9, nobody forgets", new long[] {x.life(9, 0), x.life(9, 1), x.life(9, 2)}, 21, 1, 0);
+        doc.are("who is dead", new long[] {pairOf("15", "15", 0, "dies 0 1;").life(0, 0),
+            pairOf("15", "15", 0, "dies 0 0;dies 1 1;").life(0, 1)}, 3, 1);
         doc.are("seed 2", new long[] {x.life(2, 0), x.life(2, 1), x.life(2, 2)}, 16, 2, 2);
         doc.are("seed 3", new long[] {x.life(3, 0), x.life(3, 1), x.life(3, 2)}, 17, 2, 3);
         // its x is 216,544,313, then 467,520,126, so the draws are 4 and 33
@@ -178,6 +180,8 @@ public final class SaidSeenTest {
         doc.are("pair 1", new long[] {x.lasts(0, 1, 1), x.lasts(0, 4, 1), x.lasts(0, 12, 1), x.lasts(2, 2, 1), x.lasts(8, 2, 1)},
             1, 2, 9, 0, 1);
         doc.is("pair 0", x.lasts(0, 12, 0), 0);
+        CardsAtYule y = pairOf("15", "0", 0, "");
+        doc.are("all of 20", new long[] {y.lasts(0, 20, 0), y.lasts(2_000_000_000, 20, 0)}, 20, 20);
 
         doc.says("-2: there are none such.");
         doc.all("no such", -2, x.lasts(-1, 1, 0), x.lasts(2_000_000_001, 1, 0), x.lasts(0, 0, 0), x.lasts(0, 21, 0),
