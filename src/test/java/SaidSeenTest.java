@@ -1,6 +1,6 @@
 import java.io.IOException;
 
-/** Promises 48 to 64, part by part, each with answers that are worked out by hand. */
+/** Promises 48 to 64, part by part, with answers worked out by hand; the lives of YULE were drawn by a separate program. */
 public final class SaidSeenTest {
     /** Pair 0: side 0 gets 111100, side 1 110100. Pair 1: side 0 gets 111101, side 1 101100. */
     private static final String YULE = "land years 6 card 3 hurt 5;"
